@@ -301,6 +301,26 @@ public final class WhatWouldBeTest {
         Check.due("worst() by a joint", x.worst(), 0);
     }
 
+    static void promise17_aWornJointCountsOnce() {
+        DollCitadel x = withPose(3, 0, 0, 90, 0, 0, 0);
+        turnToAndFro(x, 1, 5);
+        turnToAndFro(x, 2, 5);
+        Check.due("worst() by a joint", x.worst(), 1);
+        x.bring(2, 11);
+        x.dress(0, 1, 11);
+        Check.due("worst(), equal, of pin and joint", x.worst(), 0);
+    }
+
+    static void promise17_aWigCountsOnce() {
+        DollCitadel x = withPose(2, 0, 0, 0, 0, 0, 0);
+        x.bring(2, 11);
+        x.bring(4, 1);
+        x.dress(0, 1, 11);
+        x.pass(10);
+        x.mend(0, 4, 0);
+        Check.due("worst(), equal, of pin and wig", x.worst(), 0);
+    }
+
     static void promise17_minus1IfNoneNeedsAnything() {
         DollCitadel x = new DollCitadel();
         Check.due("worst() without dolls", x.worst(), -1);
