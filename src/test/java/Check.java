@@ -10,6 +10,14 @@ final class Check {
         void run();
     }
 
+    interface Maker {
+        DollCitadel made();
+    }
+
+    interface Use {
+        void on(DollCitadel citadel);
+    }
+
     private static int wrong = 0;
     private static String running = "";
 
@@ -38,6 +46,13 @@ final class Check {
     /** The call must throw just this class (none below it, as the machine throws) and change nothing. */
     static void dueThrow(DollCitadel citadel, Class<? extends RuntimeException> want, String call, Call made) {
         long before = citadel.digest();
+        dueThrown(want, call, made);
+        if (citadel.digest() != before) {
+            wrong(call + " threw and changed something");
+        }
+    }
+
+    private static void dueThrown(Class<? extends RuntimeException> want, String call, Call made) {
         Class<?> got = null;
         try {
             made.run();
@@ -47,9 +62,30 @@ final class Check {
         if (got != want) {
             wrong(call + " threw " + (got == null ? "nothing" : got.getName()) + ", due is " + want.getName());
         }
-        if (citadel.digest() != before) {
-            wrong(call + " threw and changed something");
+    }
+
+    /** As dueThrow, but all that the citadel tells must be as with a twin that was not called so, a day later too. */
+    static void dueRefused(Class<? extends RuntimeException> want, String call, Maker maker, Use refused) {
+        DollCitadel x = maker.made();
+        DollCitadel twin = maker.made();
+        dueThrown(want, call, () -> refused.on(x));
+        dueAlike(call + ", which was refused,", x, twin);
+    }
+
+    /** The call answers, and changes nothing. */
+    static void dueUnchanged(String call, Maker maker, Use asked) {
+        DollCitadel x = maker.made();
+        DollCitadel twin = maker.made();
+        asked.on(x);
+        dueAlike(call, x, twin);
+    }
+
+    private static void dueAlike(String call, DollCitadel x, DollCitadel twin) {
+        if (!Arrays.equals(Told.of(x), Told.of(twin))) {
+            wrong(call + " changed something");
         }
+        due("pass(1) behind " + call, x.pass(1), twin.pass(1));
+        due("digest() a day behind " + call, x.digest(), twin.digest());
     }
 
     static void wrong(String text) {
@@ -57,14 +93,13 @@ final class Check {
         System.out.println(running + ": " + text);
     }
 
-    /** Runs every static method without parameters whose name starts with "promise". */
+    /** Runs every static method without parameters whose name starts with "promise" or "terms". */
     static void runAll(Class<?> tests) {
         Method[] methods = tests.getDeclaredMethods();
         Arrays.sort(methods, Comparator.comparing(Method::getName));
         int ran = 0;
         for (Method each : methods) {
-            if (each.getName().startsWith("promise") && each.getParameterCount() == 0
-                    && Modifier.isStatic(each.getModifiers())) {
+            if (isTest(each)) {
                 runOne(each);
                 ran++;
             }
@@ -73,6 +108,12 @@ final class Check {
         if (wrong != 0 || ran == 0) {
             System.exit(1);
         }
+    }
+
+    private static boolean isTest(Method method) {
+        String name = method.getName();
+        return (name.startsWith("promise") || name.startsWith("terms")) && method.getParameterCount() == 0
+                && Modifier.isStatic(method.getModifiers());
     }
 
     private static void runOne(Method test) {
