@@ -2,6 +2,7 @@
 public final class LongRunsTest {
     private static final int RUNS = 1500;
     private static final int CALLS = 255;
+    private static final int LAST_CALL = 512;
     private static final int[] FAR = {Integer.MIN_VALUE, Integer.MIN_VALUE + 1, -100, -2, -1, 13, 60, 61, 91, 99, 100,
         1000, Integer.MAX_VALUE - 1, Integer.MAX_VALUE};
 
@@ -26,6 +27,40 @@ public final class LongRunsTest {
                 return;
             }
         }
+    }
+
+    // "An object is used for at most 512 calls": the last of them is the checksum.
+    static void promises1To21UpToThe512thCall() {
+        for (int run = 1; run <= RUNS; run++) {
+            if (!new LongRunsTest(run * 104729L).agreesUpToTheLastCall(run)) {
+                return;
+            }
+        }
+    }
+
+    static void promise19_511TimesTheMostDays() {
+        DollCitadel x = new DollCitadel();
+        for (int i = 0; i < 511; i++) {
+            x.pass(60);
+        }
+        Check.due("count(0)", x.count(0), 511 * 60);
+    }
+
+    private boolean agreesUpToTheLastCall(int run) {
+        for (int i = 0; i < LAST_CALL - 1; i++) {
+            String call = nextCall(i);
+            int[] a = arguments(call);
+            long want = model.answer(call, a);
+            long got = answer(call, a);
+            if (got != want) {
+                Check.wrong("long run " + run + ", call " + i + ": " + call + " of " + java.util.Arrays.toString(a)
+                        + " answered " + got + ", due is " + want);
+                return false;
+            }
+        }
+        long want = model.answer("digest", new int[6]);
+        Check.due("long run " + run + ", the last call: digest()", citadel.digest(), want);
+        return true;
     }
 
     private boolean agrees(int run) {

@@ -380,6 +380,9 @@ public final class WhatWouldBeBoundsTest {
     // "the mean wear of all joints of all dolls; 0 if there are none"
     static void promise20_from0To100() {
         Check.dueDouble("mean() without dolls", new DollCitadel().mean(), 0.0);
+        DollCitadel posesAlone = new DollCitadel();
+        posesAlone.pose(90, 90, 90, 90, 90, 90);
+        Check.dueDouble("mean() of poses without dolls", posesAlone.mean(), 0.0);
         Check.dueDouble("mean() without wear", Citadels.withDolls(8).mean(), 0.0);
         Check.dueDouble("mean() of all broken", Citadels.full().mean(), 100.0);
         DollCitadel x = Citadels.withDolls(1);
