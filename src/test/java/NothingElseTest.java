@@ -41,7 +41,10 @@ public final class NothingElseTest {
         int one = Citadels.poseOf(x, 90, 3);
         Told.dueChanged("take of one joint", x, y -> y.take(1, one),
                 Told.joint(1, 3, 0), Told.joint(1, 3, 1), Told.joint(1, 3, 2), Told.doll(1, 7));
-        Told.dueChanged("take of none", x, y -> y.take(1, one), Told.doll(1, 7));
+    }
+
+    static void promise04_takeOfAPoseThatTurnsNoneIsOnlyCounted() {
+        Told.dueChanged("take of none", amiss(), x -> x.take(1, Citadels.REST), Told.doll(1, 7));
     }
 
     static void promise05_blinkMovesOneEye() {
